@@ -1,0 +1,119 @@
+import java.nio.charset.StandardCharsets;
+
+/** What the tests share: answers that are due, and ways to bring texts and codes into a house. */
+final class Due {
+    private static int wrong = 0;
+    private static int asked = 0;
+
+    private Due() {
+    }
+
+    static void due(String call, long got, long want) {
+        asked++;
+        if (got != want) {
+            wrong++;
+            if (wrong <= 50) {
+                System.out.println(call + " answered " + got + ", due is " + want);
+            }
+        }
+    }
+
+    static void due(String call, boolean got, boolean want) {
+        due(call, got ? 1 : 0, want ? 1 : 0);
+    }
+
+    static void due(String call, String got, String want) {
+        asked++;
+        if (!got.equals(want)) {
+            wrong++;
+            if (wrong <= 50) {
+                System.out.println(call + " answered " + got + ", due is " + want);
+            }
+        }
+    }
+
+    /** Ends the test: with exit code 1 if an answer was not the one that is due. */
+    static void end() {
+        System.out.println(asked - wrong + " answers as due, " + wrong + " not");
+        if (wrong != 0 || asked == 0) {
+            System.exit(1);
+        }
+    }
+
+    static byte[] bytes(String text) {
+        return text.getBytes(StandardCharsets.ISO_8859_1);
+    }
+
+    /** Text s becomes these bytes, by feed and keep. */
+    static void put(SelfHouse x, int s, String text) {
+        byte[] all = bytes(text);
+        byte[] padded = new byte[(all.length + 19) / 20 * 20];
+        System.arraycopy(all, 0, padded, 0, all.length);
+        for (int i = 0; i < padded.length; i += 20) {
+            x.feed(number(padded, i), number(padded, i + 4), number(padded, i + 8),
+                number(padded, i + 12), number(padded, i + 16));
+        }
+        due("keep(" + s + ", " + all.length + ")", x.keep(s, all.length), all.length);
+    }
+
+    private static int number(byte[] b, int i) {
+        return (b[i] & 255) << 24 | (b[i + 1] & 255) << 16 | (b[i + 2] & 255) << 8 | b[i + 3] & 255;
+    }
+
+    /** Compiles the text in a new house, as text 0 to code 0. */
+    static SelfHouse house(String text) {
+        SelfHouse x = new SelfHouse();
+        put(x, 0, text);
+        x.compile(0, 0);
+        return x;
+    }
+
+    /** The same with the machine begun, the input being the other text. */
+    static SelfHouse begun(String text, String input) {
+        SelfHouse x = house(text);
+        due("fault(0) of " + text, x.fault(0), 0);
+        put(x, 1, input);
+        due("begin(0, 1) of " + text, x.begin(0, 1), true);
+        return x;
+    }
+
+    /** The words of a code, with blanks between them. */
+    static String words(SelfHouse x, int d) {
+        StringBuilder all = new StringBuilder();
+        for (int i = 0; i < x.size(d); i++) {
+            all.append(i == 0 ? "" : " ").append(x.word(d, i));
+        }
+        return all.toString();
+    }
+
+    static String outputs(SelfHouse x) {
+        StringBuilder all = new StringBuilder();
+        for (int i = 0; i < x.state(5); i++) {
+            all.append(i == 0 ? "" : " ").append(x.output(i));
+        }
+        return all.toString();
+    }
+
+    /** Code d becomes these words: a program puts them out, and they are taken. */
+    static void lay(SelfHouse x, int d, int... words) {
+        StringBuilder text = new StringBuilder("var i; def main() { while i < ");
+        text.append(words.length).append(" { put 0; i = i + 1; } }");
+        put(x, 3, text.toString());
+        x.compile(3, d);
+        x.begin(d, -1);
+        x.step(1000000);
+        due("take(" + d + ")", x.take(d), words.length);
+        for (int i = 0; i < words.length; i++) {
+            due("poke(" + d + ", " + i + ")", x.poke(d, i, words[i]), true);
+        }
+    }
+
+    static String repeat(String part, int times) {
+        return part.repeat(Math.max(0, times));
+    }
+
+    /** The n-th of many names that are no keys. */
+    static String name(String head, int n) {
+        return head + (char) ('a' + n / 26 % 26) + (char) ('a' + n % 26);
+    }
+}
