@@ -94,17 +94,52 @@ final class Due {
         return all.toString();
     }
 
-    /** Code d becomes these words: a program puts them out, and they are taken. */
+    /** Code d becomes these words: a program makes them of its input's bytes. It uses texts 2 and 3. */
     static void lay(SelfHouse x, int d, int... words) {
-        StringBuilder text = new StringBuilder("var i; def main() { while i < ");
-        text.append(words.length).append(" { put 0; i = i + 1; } }");
-        put(x, 3, text.toString());
+        put(x, 3, "def main() { let a = get; while a >= 0 { put ((a*256+get)*256+get)*256+get; a = get; } }");
+        StringBuilder all = new StringBuilder();
+        for (int w : words) {
+            for (int shift = 24; shift >= 0; shift -= 8) {
+                all.append((char) (w >>> shift & 255));
+            }
+        }
+        put(x, 2, all.toString());
         x.compile(3, d);
-        x.begin(d, -1);
+        x.begin(d, 2);
         x.step(1000000);
         due("take(" + d + ")", x.take(d), words.length);
-        for (int i = 0; i < words.length; i++) {
-            due("poke(" + d + ", " + i + ")", x.poke(d, i, words[i]), true);
+    }
+
+    /** A house with code 0 of one proc, main, at the beginning of these words of code. */
+    static SelfHouse coded(int room, int parameters, int owns, int... words) {
+        int[] all = new int[8 + words.length];
+        int[] head = {7919, all.length, room, 1, 0, 0, parameters, owns};
+        System.arraycopy(head, 0, all, 0, 8);
+        System.arraycopy(words, 0, all, 8, words.length);
+        SelfHouse x = new SelfHouse();
+        lay(x, 0, all);
+        return x;
+    }
+
+    /** What the class makes of the text, and what SELF makes of it when the machine runs it, are the same. */
+    static void agree(String text) {
+        SelfHouse x = new SelfHouse();
+        x.self(0);
+        x.compile(0, 0);
+        put(x, 1, text);
+        int size = x.compile(1, 1);
+        x.begin(0, 1);
+        for (int i = 0; i < 20 && x.state(0) == 1; i++) {
+            x.step(1000000);
+        }
+        String shown = text.length() > 300 ? text.substring(0, 300) + ".." : text;
+        due("SELF's outcome on " + shown, x.state(0), 2);
+        if (x.fault(0) == 0) {
+            due("take(2), SELF's code of " + shown, x.take(2), size);
+            due("differ(1, 2), both codes of " + shown, x.differ(1, 2), -1);
+        } else {
+            due("compile of " + shown, size, -1);
+            due("SELF's answer on " + shown, outputs(x), -x.fault(0) + " " + x.fault(1));
         }
     }
 
