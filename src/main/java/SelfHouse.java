@@ -28,6 +28,9 @@ public final class SelfHouse {
     private static final int CODE_MARK = 7919;
     private static final int HEAD_WORDS = 5;
     private static final int WORDS_A_PROC = 3;
+    private static final int AT_ROOM = 2;
+    private static final int AT_PROCS = 3;
+    private static final int AT_MAIN = 4;
 
     private static final int OP_NUMBER = 0;
     private static final int OP_OWN = 1;
@@ -192,9 +195,9 @@ public final class SelfHouse {
             case 4:
                 return machine.frames.count();
             case 5:
-                return machine.written.count;
+                return machine.output.count;
             case 6:
-                return machine.read;
+                return machine.taken;
             case 7:
                 return tape.count;
             default:
@@ -207,7 +210,7 @@ public final class SelfHouse {
     }
 
     public int memory(int a) {
-        return machine.room.get(a);
+        return machine.memory.get(a);
     }
 
     public int own(int k) {
@@ -215,7 +218,7 @@ public final class SelfHouse {
     }
 
     public int output(int i) {
-        return machine.written.get(i);
+        return machine.output.get(i);
     }
 
     public int take(int d) {
@@ -223,7 +226,7 @@ public final class SelfHouse {
         if (row == null || machine.outcome == Machine.NOT_BEGUN) {
             return NONE;
         }
-        row.copy(machine.written);
+        row.copy(machine.output);
         return row.count;
     }
 
@@ -303,7 +306,7 @@ public final class SelfHouse {
         }
 
         void copy(Row other) {
-            count = Math.min(other.count, cells.length);
+            count = Math.min(other.count, Math.min(other.cells.length, cells.length));
             System.arraycopy(other.cells, 0, cells, 0, count);
         }
 
@@ -1180,10 +1183,10 @@ public final class SelfHouse {
         int place;
         int steps;
         /** How many bytes of the INPUT were taken. */
-        int read;
-        final Row room = new Row(MOST_ROOM);
+        int taken;
+        final Row memory = new Row(MOST_ROOM);
         final Row pile = new Row(MOST_VALUES);
-        final Row written = new Row(MOST_WORDS);
+        final Row output = new Row(MOST_WORDS);
         final Frames frames = new Frames();
 
         private final Row code = new Row(MOST_WORDS);
@@ -1206,28 +1209,28 @@ public final class SelfHouse {
             if (bytes != null) {
                 input.copy(bytes);
             }
-            start = HEAD_WORDS + WORDS_A_PROC * code.get(3);
+            start = HEAD_WORDS + WORDS_A_PROC * code.get(AT_PROCS);
             length = code.count - start;
-            room.becomeZeros(code.get(2));
+            memory.becomeZeros(code.get(AT_ROOM));
             pile.clear();
             frames.clear();
-            written.clear();
+            output.clear();
             place = 0;
             steps = 0;
-            read = 0;
-            callMain(code.get(4));
+            taken = 0;
+            callMain(code.get(AT_MAIN));
             return true;
         }
 
         private static boolean hasForm(Row source) {
-            int procs = source.get(3);
+            int procs = source.get(AT_PROCS);
             return source.count >= HEAD_WORDS
                 && source.get(0) == CODE_MARK
                 && source.get(1) == source.count
-                && source.get(2) >= 0 && source.get(2) <= MOST_ROOM
+                && source.get(AT_ROOM) >= 0 && source.get(AT_ROOM) <= MOST_ROOM
                 && procs >= 0 && procs <= MOST_PROCS
                 && HEAD_WORDS + WORDS_A_PROC * procs <= source.count
-                && source.get(4) >= 0 && source.get(4) < procs;
+                && source.get(AT_MAIN) >= 0 && source.get(AT_MAIN) < procs;
         }
 
         private void callMain(int main) {
@@ -1252,15 +1255,13 @@ public final class SelfHouse {
 
         private void tryStep() {
             int op = instruction();
-            int trouble = op == NONE ? BAD_CODE : troubleOf(op);
-            if (op < 0 || op >= NUMBERS.length || trouble != GOES_ON) {
-                outcome = trouble;
-                return;
+            outcome = outcomeAhead(op);
+            if (outcome == GOES_ON && op >= 0 && op < NUMBERS.length) {
+                place += 1 + NUMBERS[op];
+                perform(op);
+                steps++;
+                stepsInAll++;
             }
-            place += 1 + NUMBERS[op];
-            perform(op);
-            steps++;
-            stepsInAll++;
         }
 
         /** The instruction at the PLACE, with its numbers in first and second; NONE when it can't be one. */
@@ -1272,8 +1273,10 @@ public final class SelfHouse {
             if (op < 0 || op >= NUMBERS.length || place + NUMBERS[op] >= length) {
                 return NONE;
             }
-            first = code.get(start + place + 1);
-            second = code.get(start + place + 2);
+            if (NUMBERS[op] > 0) {
+                first = code.get(start + place + 1);
+                second = code.get(start + place + 2);
+            }
             return numbersFit(op) ? op : NONE;
         }
 
@@ -1284,10 +1287,10 @@ public final class SelfHouse {
                     return first >= 0 && first < ownNamesOf(frames.proc());
                 case OP_VAR:
                 case OP_SET_VAR:
-                    return room.has(first);
+                    return memory.has(first);
                 case OP_ITEM:
                 case OP_SET_ITEM:
-                    return first >= 0 && second >= 0 && second <= room.count - first;
+                    return first >= 0 && second >= 0 && second <= memory.count - first;
                 case OP_GO:
                 case OP_GO_IF_ZERO:
                     return isPlace(first);
@@ -1303,7 +1306,7 @@ public final class SelfHouse {
         }
 
         private boolean isCallable(int proc) {
-            return proc >= 0 && proc < code.get(3)
+            return proc >= 0 && proc < code.get(AT_PROCS)
                 && isPlace(entryOf(proc))
                 && parametersOf(proc) >= 0
                 && parametersOf(proc) <= ownNamesOf(proc)
@@ -1322,8 +1325,8 @@ public final class SelfHouse {
             return code.get(HEAD_WORDS + WORDS_A_PROC * proc + 2);
         }
 
-        /** The outcome that keeps the instruction from being done, GOES_ON when none does. */
-        private int troubleOf(int op) {
+        /** The outcome that keeps the instruction from being done, GOES_ON when none does; NONE is no instruction. */
+        private int outcomeAhead(int op) {
             if (op < 0 || op >= TAKES.length || op >= PUTS.length) {
                 return BAD_CODE;
             }
@@ -1343,7 +1346,7 @@ public final class SelfHouse {
                 case OP_CALL:
                     return frames.areFull() ? TOO_DEEP : GOES_ON;
                 case OP_PUT:
-                    return written.isFull() ? TOO_LONG : GOES_ON;
+                    return output.isFull() ? TOO_LONG : GOES_ON;
                 default:
                     return GOES_ON;
             }
@@ -1365,13 +1368,13 @@ public final class SelfHouse {
                     frames.setOwnWord(first, pile.drop());
                     break;
                 case OP_VAR:
-                    pile.add(room.get(first));
+                    pile.add(memory.get(first));
                     break;
                 case OP_SET_VAR:
-                    room.set(first, pile.drop());
+                    memory.set(first, pile.drop());
                     break;
                 case OP_ITEM:
-                    pile.add(room.get(first + pile.drop()));
+                    pile.add(memory.get(first + pile.drop()));
                     break;
                 case OP_SET_ITEM:
                     setItem();
@@ -1395,7 +1398,7 @@ public final class SelfHouse {
                     leave();
                     break;
                 case OP_PUT:
-                    written.add(pile.drop());
+                    output.add(pile.drop());
                     break;
                 case OP_GET:
                     pile.add(nextByte());
@@ -1418,15 +1421,15 @@ public final class SelfHouse {
         private void setItem() {
             int v = pile.drop();
             int i = pile.drop();
-            room.set(first + i, v);
+            memory.set(first + i, v);
         }
 
         private int nextByte() {
-            if (!input.has(read)) {
+            if (!input.has(taken)) {
                 return NONE;
             }
-            int b = input.get(read);
-            read++;
+            int b = input.get(taken);
+            taken++;
             return b;
         }
 

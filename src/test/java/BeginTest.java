@@ -7,6 +7,7 @@ public final class BeginTest {
         aRefusedBeginChangesNothing();
         theCallOfMain();
         beginsAnew();
+        endsAnewBehindManyFrames();
         codeAndInputAreCopies();
         Due.end();
     }
@@ -68,7 +69,7 @@ public final class BeginTest {
         }
         Due.due("state(0)", x.state(0), 0);
         Due.due("begin(1, 0), an empty code", x.begin(1, 0), false);
-        for (int s = 0; s < 4; s++) {
+        for (int s = 3; s >= 0; s--) {
             Due.due("begin(0, " + s + ")", x.begin(0, s), true);
             x.step(2);
             Due.due("output(0)", x.output(0), s == 0 ? 'd' : -1);
@@ -144,6 +145,17 @@ public final class BeginTest {
         Due.due("own(1)", x.own(1), 0);
         Due.due("step(6)", x.step(6), 6);
         Due.due("states", states(x), "1 12 6 1 1 0 1 0 120 3 0 ");
+    }
+
+    private static void endsAnewBehindManyFrames() {
+        SelfHouse x = Due.begun("def f(n) { if n { return n + f(n - 1); } return 0; }"
+            + " def main() { if get == 'd' { f(1000); } put f(10); put f(3); }", "d");
+        x.step(100000);
+        Due.due("state(0)", x.state(0), 7);
+        Due.due("begin(0, -1)", x.begin(0, -1), true);
+        x.step(100000);
+        Due.due("state(0)", x.state(0), 2);
+        Due.due("outputs", Due.outputs(x), "55 6");
     }
 
     private static void codeAndInputAreCopies() {

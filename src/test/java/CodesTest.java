@@ -53,6 +53,8 @@ public final class CodesTest {
         Due.due("differ(0, 3)", x.differ(0, 3), 13);
         x.poke(3, 9, 1);
         Due.due("differ(3, 0)", x.differ(3, 0), 9);
+        x.poke(3, 0, 1);
+        Due.due("differ(0, 3)", x.differ(0, 3), 0);
         Due.put(x, 0, "def main() { put 77; put 1; }");
         x.compile(0, 4);
         x.poke(4, 1, 14);

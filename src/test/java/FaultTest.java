@@ -22,6 +22,8 @@ public final class FaultTest {
         largeVars();
         largeOwns();
         largeCode();
+        textsOf8000Bytes();
+        nothingIsLeftOfTheTextBefore();
         Due.end();
     }
 
@@ -228,6 +230,8 @@ public final class FaultTest {
         inMain(NAME, "let a = 1; put @a[1];");
         inMain(NAME, "put @w;");
         inMain(NAME, "@w = 1;");
+        noticed(NAME, "var a[1]; def main() { put @a; }");
+        noticed(NAME, "var a[1]; def main() { @a = 1; }");
         inMain(NAME, "put @x;");
         inMain(NAME, "@x = 1;");
         inMain(NAME, "@x;");
@@ -294,6 +298,32 @@ public final class FaultTest {
         noticed(MAIN, "def main(a) { }@");
         noticed(MAIN, "def f() { } # x\n @");
         noticed(MAIN, "def maim() { } def mai() { } def mainn() { }@");
+    }
+
+    private static void textsOf8000Bytes() {
+        String begin = "def main() { ";
+        String blanks = Due.repeat(" \n", 4000);
+        fine(begin + blanks.substring(begin.length() + 1) + "}");
+        noticed(SYNTAX, begin + blanks.substring(begin.length()) + "@");
+        noticed(SYNTAX, begin + blanks.substring(begin.length() + 1) + "@$");
+        noticed(MAIN, blanks + "@");
+        noticed(SYNTAX, "def main(){put " + Due.repeat("1+", 10) + "@" + Due.repeat(";", 7965));
+        noticed(SYNTAX, "def main(){@" + Due.repeat("{", 7989));
+    }
+
+    private static void nothingIsLeftOfTheTextBefore() {
+        SelfHouse x = Due.house("var a; var b[7]; def f(k, l) { put " + Due.repeat("(", 20) + "$");
+        Due.due("fault(0)", x.fault(0), 1);
+        Due.put(x, 0, "def main() { put " + Due.repeat("(", 29) + "1" + Due.repeat(")", 29) + "; }");
+        Due.due("compile(0, 0)", x.compile(0, 0), 14);
+        Due.due("words", Due.words(x, 0), "7919 14 0 1 0 0 0 0 0 1 24 0 0 23");
+        Due.put(x, 0, "var a; var b[7]; def f() { } def main() { let k = f(); }");
+        Due.due("compile(0, 0)", x.compile(0, 0), 21);
+        Due.due("words", Due.words(x, 0), "7919 21 8 2 1 0 0 0 3 0 1 0 0 23 21 0 2 0 0 0 23");
+        Due.put(x, 0, "def main() { put k; }");
+        Due.due("compile(0, 0)", x.compile(0, 0), -1);
+        Due.due("fault(0)", x.fault(0), 2);
+        Due.due("fault(1)", x.fault(1), 17);
     }
 
     private static String defs(int from, int to) {

@@ -92,7 +92,7 @@ public final class MachineTest {
         int[][] rows = {
             {7, 2, 3, 5}, {7, MAX, 1, MIN}, {8, 2, 3, -1}, {8, MIN, 1, MAX}, {9, 7, -6, -42},
             {9, 65536, 65536, 0}, {9, MIN, -1, MIN}, {10, 7, 2, 3}, {10, -7, 2, -3}, {10, 7, -2, -3},
-            {10, MIN, -1, MIN}, {10, 0, 5, 0}, {11, 7, 3, 1}, {11, -7, 3, -1}, {11, 7, -3, 1}, {11, MIN, -1, 0},
+            {10, MIN, -1, MIN}, {10, 0, 5, 0}, {10, 7, 1, 7}, {10, 7, -1, -7}, {11, 7, 1, 0}, {11, 7, 3, 1}, {11, -7, 3, -1}, {11, 7, -3, 1}, {11, MIN, -1, 0},
             {11, MIN, MAX, -1}, {13, 4, 4, 1}, {13, 4, 5, 0}, {14, 4, 4, 0}, {14, 4, 5, 1}, {15, MIN, MAX, 1},
             {15, 4, 4, 0}, {15, 5, 4, 0}, {16, 4, 4, 1}, {16, 5, 4, 0}, {16, 3, 4, 1}, {17, MAX, MIN, 1},
             {17, 4, 4, 0}, {17, 3, 4, 0}, {18, 4, 4, 1}, {18, 3, 4, 0}, {18, 5, 4, 1}
@@ -257,6 +257,8 @@ public final class MachineTest {
         over(3, 0, 0, 0, 21, -1, 26);
         over(3, 0, 0, 0, 21, MAX, 26);
         over(3, 0, 0, 0, 21, 0x55555555, 26);
+        // the words of code, taken for those of a second proc, would be a good one
+        over(3, 4, 2, 2, 0, 0, 0, 5, 21, 1, 26);
         badCall(1, 4, 1, 1);
         badCall(1, 0, 0, 20);
         badCall(3, 5, 0, 0);
@@ -316,6 +318,32 @@ public final class MachineTest {
         Due.due("top(1)", x.top(1), 3);
         Due.due("top(1999)", x.top(1999), 3);
         Due.due("top(2000)", x.top(2000), 0);
+        fullPile(2, 21, 26, 26);
+        fullPile(2, 21, 23, 26);
+        fullPile(1, 0, 21, 1);
+        fullPile(1, 20, 19, 20);
+        fullPile(1, 22, 20, 22, 26);
+        fullPile(1, 22, 4, 1, 26);
+        fullPile(1, 21, 7, 26);
+        fullPile(1, 21, 24, 26);
+        fullPile(6, 20, 25, 26);
+    }
+
+    /** With 2000 values there one step of these words, which begin at 20, is done, or is STACK. */
+    private static void fullPile(int outcome, int place, int... words) {
+        int[] filling = {0, 1, 3, 0, 0, 1, 7, 4, 0, 3, 0, 0, 1998, 13, 20, 0, 0, 1, 0, 1};
+        int[] all = java.util.Arrays.copyOf(new int[] {7919, 31 + words.length, 2, 2, 0, 0, 0, 0, 0, 0, 0}, 31 + words.length);
+        System.arraycopy(filling, 0, all, 11, 20);
+        System.arraycopy(words, 0, all, 31, words.length);
+        SelfHouse x = new SelfHouse();
+        Due.lay(x, 0, all);
+        x.begin(0, -1);
+        x.step(9 * 1998 + 2);
+        String shown = java.util.Arrays.toString(words) + " on a full pile";
+        Due.due("state(3) ahead of " + shown, x.state(3), 2000);
+        Due.due("step(1) of " + shown, x.step(1), outcome == 6 ? 0 : 1);
+        Due.due("state(0) of " + shown, x.state(0), outcome);
+        Due.due("state(1) of " + shown, x.state(1), place);
     }
 
     private static void index() {
@@ -407,6 +435,7 @@ public final class MachineTest {
             Due.due("state(" + i + ")", x.state(i), -1);
         }
         Due.due("state(8)", x.state(8), -1);
+        ownWordsOfTheLatestFrameAlone();
         Due.due("top(1)", x.top(1), 0);
         Due.due("memory(1)", x.memory(1), 0);
         Due.due("own(20)", x.own(20), 0);
@@ -414,6 +443,22 @@ public final class MachineTest {
         Due.due("output(0)", x.output(0), 3);
         Due.due("memory(0)", x.memory(0), 1);
         Due.due("top(0)", x.top(0), 4);
+    }
+
+    private static void ownWordsOfTheLatestFrameAlone() {
+        StringBuilder text = new StringBuilder("def f() { stop; } def main() { ");
+        for (int k = 0; k < 20; k++) {
+            text.append("let ").append(Due.name("k", k)).append(" = 7; ");
+        }
+        SelfHouse x = Due.begun(text.append("f(); }").toString(), "");
+        Due.due("step(40)", x.step(40), 40);
+        for (int k = 0; k < 20; k++) {
+            Due.due("own(" + k + ")", x.own(k), 7);
+        }
+        Due.due("step(2)", x.step(2), 2);
+        for (int k = -20; k < 40; k++) {
+            Due.due("own(" + k + ")", x.own(k), 0);
+        }
     }
 
     private static void taken() {
