@@ -4,17 +4,39 @@ import java.nio.charset.StandardCharsets;
 final class Due {
     private static int wrong = 0;
     private static int asked = 0;
+    private static String sentence = "";
+    private static int askedAhead = 0;
 
     private Due() {
+    }
+
+    /** What the document says, word for word: the answers that are asked from here on are due by it. */
+    static void says(String said) {
+        leaveSentence();
+        sentence = said;
+        askedAhead = asked;
+        if (!Document.sentences().contains(Document.oneLine(said))) {
+            tellWrong("the document does not say so");
+        }
+    }
+
+    private static void leaveSentence() {
+        if (!sentence.isEmpty() && asked == askedAhead) {
+            tellWrong("nothing was asked by it");
+        }
+    }
+
+    private static void tellWrong(String what) {
+        wrong++;
+        if (wrong <= 50) {
+            System.out.println((sentence.isEmpty() ? "" : "[" + sentence + "] ") + what);
+        }
     }
 
     static void due(String call, long got, long want) {
         asked++;
         if (got != want) {
-            wrong++;
-            if (wrong <= 50) {
-                System.out.println(call + " answered " + got + ", due is " + want);
-            }
+            tellWrong(call + " answered " + got + ", due is " + want);
         }
     }
 
@@ -25,16 +47,14 @@ final class Due {
     static void due(String call, String got, String want) {
         asked++;
         if (!got.equals(want)) {
-            wrong++;
-            if (wrong <= 50) {
-                System.out.println(call + " answered " + got + ", due is " + want);
-            }
+            tellWrong(call + " answered " + got + ", due is " + want);
         }
     }
 
     /** Ends the test: with exit code 1 if an answer was not the one that is due. */
     static void end() {
-        System.out.println(asked - wrong + " answers as due, " + wrong + " not");
+        leaveSentence();
+        System.out.println(asked + " answers asked for, " + wrong + " not as due");
         if (wrong != 0 || asked == 0) {
             System.exit(1);
         }

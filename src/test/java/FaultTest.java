@@ -1,12 +1,5 @@
-/** Promise 7, and what is noticed in a text (promise 6). An @ marks the place that is due; it is no part of the text. */
-public final class FaultTest {
-    private static final int SYNTAX = 1;
-    private static final int NAME = 2;
-    private static final int ARGUMENTS = 3;
-    private static final int MISSING = 4;
-    private static final int MAIN = 5;
-    private static final int LARGE = 6;
-
+/** Promise 7, and what is noticed in a text (promise 6). */
+public final class FaultTest extends FaultCases {
     public static void main(String[] args) {
         tokens();
         characters();
@@ -25,35 +18,6 @@ public final class FaultTest {
         textsOf8000Bytes();
         nothingIsLeftOfTheTextBefore();
         Due.end();
-    }
-
-    private static void noticed(int kind, String marked) {
-        int place = marked.indexOf('@');
-        String text = marked.substring(0, place) + marked.substring(place + 1);
-        SelfHouse x = Due.house(text);
-        String shown = marked.length() > 300 ? marked.substring(0, 300) + ".." : marked;
-        Due.due("fault(0) of " + shown, x.fault(0), kind);
-        Due.due("fault(1) of " + shown, x.fault(1), place);
-        Due.due("size(0) of " + shown, x.size(0), 0);
-        Due.agree(text);
-    }
-
-    private static void fine(String text) {
-        SelfHouse x = Due.house(text);
-        String shown = text.length() > 300 ? text.substring(0, 300) + ".." : text;
-        Due.due("fault(0) of " + shown, x.fault(0), 0);
-        Due.due("fault(1) of " + shown, x.fault(1), -1);
-        Due.due("size(0) of " + shown + " is above 0", x.size(0) > 0, true);
-        Due.agree(text);
-    }
-
-    /** In main, with a var v and w of five words. */
-    private static void inMain(int kind, String marked) {
-        noticed(kind, "var v; var w[5]; def main() { " + marked + " }");
-    }
-
-    private static void fineInMain(String lines) {
-        fine("var v; var w[5]; def main() { " + lines + " }");
     }
 
     private static void tokens() {

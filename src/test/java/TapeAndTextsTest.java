@@ -1,11 +1,6 @@
-import java.io.IOException;
-import java.nio.charset.StandardCharsets;
-import java.nio.file.Files;
-import java.nio.file.Path;
-
 /** Promises 2 to 5: feed, keep, self, text. */
 public final class TapeAndTextsTest {
-    public static void main(String[] args) throws IOException {
+    public static void main(String[] args) {
         bytesComeHighestFirst();
         tapeHolds8000();
         keepRefuses();
@@ -80,8 +75,9 @@ public final class TapeAndTextsTest {
         Due.due("state(7)", x.state(7), 0);
     }
 
-    private static void selfIsTheDocumentsText() throws IOException {
-        byte[] want = documentsSelf().getBytes(StandardCharsets.ISO_8859_1);
+    private static void selfIsTheDocumentsText() {
+        byte[] want = Due.bytes(Document.self());
+        Due.due("SELF's bytes in the document", want.length, 7110);
         SelfHouse x = new SelfHouse();
         for (int s : new int[] {-1, 4, Integer.MIN_VALUE, Integer.MAX_VALUE}) {
             Due.due("self(" + s + ")", x.self(s), -1);
@@ -97,16 +93,5 @@ public final class TapeAndTextsTest {
         Due.due("state(7)", x.state(7), 20);
         Due.due("self(0) once more", x.self(0), 7110);
         Due.due("text(0, 7109)", x.text(0, 7109), '}');
-    }
-
-    private static String documentsSelf() throws IOException {
-        StringBuilder all = new StringBuilder();
-        for (String line : Files.readAllLines(Path.of(System.getProperty("house.shared"), "DOC.md"))) {
-            if (line.startsWith("| ")) {
-                all.append(all.length() == 0 ? "" : "\n").append(line.substring(2));
-            }
-        }
-        Due.due("SELF's bytes in the document", all.length(), 7110);
-        return all.toString();
     }
 }
