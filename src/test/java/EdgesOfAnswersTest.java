@@ -6,6 +6,7 @@ public final class EdgesOfAnswersTest extends MachineCases {
         beginsAsItIsNow();
         beginRefuses();
         nothingIsLeft();
+        noFrameIsLeft();
         steps();
         stepRefuses();
         statesAheadOfBegin();
@@ -48,6 +49,7 @@ public final class EdgesOfAnswersTest extends MachineCases {
                 Due.due("outputs", Due.outputs(x), (s < 0 ? -1 : input.charAt(s)) + " 0 -1");
             }
         }
+        inputOneBehindTheOther();
         SelfHouse x = Due.house("def main() { put 5; }");
         x.begin(0, -1);
         x.poke(0, 9, 6);
@@ -56,6 +58,19 @@ public final class EdgesOfAnswersTest extends MachineCases {
         x.begin(0, -1);
         x.step(2);
         Due.due("output(0), begun anew", x.output(0), 6);
+    }
+
+    private static void inputOneBehindTheOther() {
+        SelfHouse x = Due.house("def main() { put get; put get; put get; }");
+        Due.put(x, 1, "ab");
+        Due.put(x, 2, "c");
+        int[] texts = {1, 2, 3, 1, -1, 2, -1};
+        String[] want = {"97 98 -1", "99 -1 -1", "-1 -1 -1", "97 98 -1", "-1 -1 -1", "99 -1 -1", "-1 -1 -1"};
+        for (int i = 0; i < texts.length; i++) {
+            Due.due("begin(0, " + texts[i] + ")", x.begin(0, texts[i]), true);
+            x.step(100);
+            Due.due("outputs", Due.outputs(x), want[i]);
+        }
     }
 
     private static void beginRefuses() {
@@ -102,12 +117,33 @@ public final class EdgesOfAnswersTest extends MachineCases {
             Due.due("step(3)", x.step(3), other.step(3));
             Due.due("what can be seen of the machine", Seen.machine(x), Seen.machine(other));
         }
+        x.step(1000000);
+        Due.due("state(4)", x.state(4), 250);
+        Due.due("begin(0, 1) behind 250 FRAMES", x.begin(0, 1), true);
+        Due.due("step(1000000)", x.step(1000000), other.state(2) + other.step(1000000));
+        Due.due("what can be seen of the machine", Seen.machine(x), Seen.machine(other));
         x.poke(0, 4, 0);
         Due.due("begin(0, 1), main being f", x.begin(0, 1), true);
         Due.due("state(0)", x.state(0), STACK);
         Due.due("states", states(x), "0 0 0 0 0 0");
         Due.due("step(1)", x.step(1), 0);
         Due.due("memory(8)", x.memory(8), 0);
+    }
+
+    /** Of 250 FRAMES none is left either: as many can come and go once more. */
+    private static void noFrameIsLeft() {
+        Due.says("The machine begins anew");
+        SelfHouse x = Due.begun("def f(n) { if n { return n + f(n - 1); } return 0; }"
+            + " def main() { let n = get; put f(n); put f(n) + 1; }", "\u00f9");
+        for (char n : new char[] {248, 249, 248, 249, 249, 3, 248}) {
+            Due.put(x, 1, String.valueOf(n));
+            x.begin(0, 1);
+            x.step(1000000);
+            Due.due("state(0)", x.state(0), n < 249 ? ENDED : DEEP);
+            Due.due("state(4)", x.state(4), n < 249 ? 0 : 250);
+            int sum = n * (n + 1) / 2;
+            Due.due("outputs", Due.outputs(x), n < 249 ? sum + " " + (sum + 1) : "");
+        }
     }
 
     private static void steps() {
@@ -192,8 +228,9 @@ public final class EdgesOfAnswersTest extends MachineCases {
         Due.says("1 the PLACE, 2 steps done since it began, 3 values on the pile, 4 FRAMES, 5 words of OUTPUT, 6 bytes of "
             + "INPUT that were taken,");
         SelfHouse x = Due.begun("def main() { put get; put get + f(get); put get; } def f(a) { return a; }", "abcd");
-        String[] want = {"0 0 0 1 0 0", "1 1 1 1 0 1", "2 2 0 1 1 1", "3 3 1 1 1 2", "4 4 2 1 1 3", "13 5 1 2 1 3", "15 6 2 2 1 3",
-            "6 7 2 1 1 3", "7 8 1 1 1 3", "8 9 0 1 2 3", "9 10 1 1 2 4", "10 11 0 1 3 4", "12 12 1 1 3 4", "13 13 1 0 3 4"};
+        String[] want = {"0 0 0 1 0 0", "1 1 1 1 0 1", "2 2 0 1 1 1", "3 3 1 1 1 2", "4 4 2 1 1 3", "13 5 1 2 1 3",
+            "15 6 2 2 1 3", "6 7 2 1 1 3", "7 8 1 1 1 3", "8 9 0 1 2 3", "9 10 1 1 2 4", "10 11 0 1 3 4",
+            "12 12 1 1 3 4", "13 13 1 0 3 4"};
         for (int i = 0; i < want.length; i++) {
             Due.due("states after " + i + " steps", states(x), want[i]);
             Due.due("step(1)", x.step(1), i < want.length - 1 ? 1 : 0);

@@ -138,12 +138,14 @@ public final class EdgesOfNoticesTest extends FaultCases {
             inDepth(true, "put " + Due.repeat("(", 28) + one + " + " + one + " * " + one + Due.repeat(")", 28) + ";");
             inDepth(true, "put " + opened(29, sign) + "; put " + opened(29, sign) + ";");
             inDepth(true, "put " + opened(29, sign) + " == " + opened(29, sign) + ";");
-            inDepth(true, "if " + opened(29, sign) + " { put " + opened(28, sign) + "; } put " + opened(29, sign) + ";");
-            inDepth(false, "if 1 { put " + opened(28, sign) + "; } put " + opened(28, sign) + " + " + Due.repeat("(", 29)
-                + "@(1");
+            inDepth(true, "if " + opened(29, sign) + " { put " + opened(28, sign) + "; } put " + opened(29, sign)
+                + ";");
+            inDepth(false, "if 1 { put " + opened(28, sign) + "; } put " + opened(28, sign) + " + "
+                + Due.repeat("(", 29) + "@(1");
         }
         inDepth(true, Due.repeat("if 1 { } else { } ", 40) + Due.repeat("while 0 { } ", 40));
-        inDepth(true, Due.repeat("if 1 { ", 29) + Due.repeat("} ", 29) + Due.repeat("if 1 { ", 29) + Due.repeat("} ", 29));
+        inDepth(true, Due.repeat("if 1 { ", 29) + Due.repeat("} ", 29) + Due.repeat("if 1 { ", 29)
+            + Due.repeat("} ", 29));
     }
 
     private static void theMinusIsOpenUntilItsFIsDone() {
@@ -192,7 +194,8 @@ public final class EdgesOfNoticesTest extends FaultCases {
         Due.says("ahead of [ one that is no var with a number;");
         fine("var a[1]; def f(a) { put a[0]; a[0] = a; } def main() { let a = 1; put a[a]; }");
         for (String line : new String[] {"put @x[1];", "@x[1] = 1;", "put @v[1];", "@v[1] = 1;", "put @main[1];",
-            "@main[1] = 1;", "let a = 1; put @a[1];", "let a = 1; @a[1] = 1;", "put w[@v[1]];", "put @x[", "put @x[$"}) {
+            "@main[1] = 1;", "let a = 1; put @a[1];", "let a = 1; @a[1] = 1;", "put w[@v[1]];", "put @x[",
+            "put @x[$"}) {
             inMain(NAME, line);
         }
         noticed(NAME, "def main() { put @a[0]; } var a[1];");
@@ -208,6 +211,9 @@ public final class EdgesOfNoticesTest extends FaultCases {
             inMain(NAME, line);
         }
         noticed(NAME, "def f(b) { let c = 1; } def main() { put @b; }");
+        noticed(NAME, "var a[1]; def main() { put @a; }");
+        noticed(NAME, "var a[1]; def main() { @a = 1; }");
+        noticed(NAME, "var a[8000]; def main() { put @a; }");
         noticed(NAME, "def f(b) { let c = 1; } def main() { @c = 1; }");
         noticed(NAME, "def main() { put @a; } var a;");
         noticed(NAME, "def main() { @a = 1; } var a;");

@@ -1,4 +1,7 @@
-/** All that can be seen of a house, so that two moments, or two houses, can be held against each other. */
+/**
+ * All that can be seen of a house, so that two moments, or two houses, can be held against each other. It asks more
+ * than the 512 calls that are promised: the class counts no calls, and else not all could be seen.
+ */
 final class Seen {
     private interface Row {
         int at(int i);
